@@ -292,6 +292,8 @@ public final class PlaysTest {
         CHECK.due("series of no SUM", x.series(2, 3), -2);
         x.write(2, 1, 103);
         CHECK.due("series of a SWAP", x.series(2, 3), -2);
+        Told.row(x, 2, 0, 4, 0);
+        CHECK.due("series of no SUM first", x.series(2, 3), -2);
         CHECK.due("series of nothing", x.series(3, 3), -6);
         CHECK.due("series of no SLOT", x.series(4, 3), -2);
         CHECK.due("series of no s", x.series(3, 15), -2);

@@ -54,6 +54,11 @@ public final class RowsTest {
         CHECK.due("judge of a swap that can't be", x.judge(0), 2);
         Told.row(x, 0, 0, 100);
         CHECK.due("judge of no turn", x.judge(0), 0);
+        SlatePlay y = Told.school("slates 3;num 1;turn 0 by 1;turn 0 by 2;");
+        Told.tell(y, "slates 3;num 1;turn 0 by 1;");
+        y.move(0);
+        Told.row(y, 0, 0, 102);
+        CHECK.due("judge of a turn of an earlier SCHOOL", y.judge(0), 0);
         Told.row(x, 0, 0, 101 + 256);
         CHECK.due("judge of a number cut", x.judge(0), 1);
     }

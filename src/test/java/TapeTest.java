@@ -97,6 +97,17 @@ public final class TapeTest {
         Told.tell(x, "slates 1;");
         CHECK.due("blanks told", Told.tell(x, " \n "), 0);
         CHECK.due("no SCHOOL behind blanks", x.slates(0), -2);
+        Told.tape(x, "slates 14;num 12;num 345");
+        x.end(14);
+        CHECK.due("cut within a number", x.school(), -4);
+        CHECK.due("its place is the end's", x.fault(1), 14);
+        Told.tape(x, "slates 14;num 12;numb");
+        x.end(20);
+        CHECK.due("cut within a word", x.school(), -4);
+        CHECK.due("its place is the end's, too", x.fault(1), 20);
+        Told.tape(x, "slates 14;num 12;");
+        x.end(10);
+        CHECK.due("cut behind a LINE", x.school(), 1);
         CHECK.due("14 SUMS", Told.tell(x, "slates 1;" + "num 1;".repeat(14)), 15);
     }
 
@@ -124,6 +135,12 @@ public final class TapeTest {
         fault("slates 1;5;", 1, 9);
         fault("slates 3;foo", 1, 9);
         fault("slates 3;nums 1;", 1, 9);
+        fault("slates 3;numz 1;", 1, 9);
+        fault("slates 3;num 1z;", 1, 14);
+        fault("slates 3;num`1;", 1, 12);
+        fault("slates 3;num{1;", 1, 12);
+        fault("slates 3;num 1:;", 1, 14);
+        fault("slates 3;num /1;", 1, 13);
         fault("slates 3;nu", 1, 9);
         fault("Slates 3;", 1, 0);
         fault("slates 3,num 1;", 1, 8);
