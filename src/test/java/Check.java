@@ -11,6 +11,14 @@ final class Check {
         }
     }
 
+    void same(String what, String got, String want) {
+        asked++;
+        if (!got.equals(want)) {
+            wrong++;
+            System.out.println(what + ":\n  is  " + got + "\n  due " + want);
+        }
+    }
+
     void finish() {
         System.out.println(asked + " asked, " + wrong + " wrong");
         if (asked == 0 || wrong != 0) {
