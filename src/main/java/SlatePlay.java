@@ -26,6 +26,8 @@ public final class SlatePlay {
     private static final int IMAGES = 3;
     private static final int MODULUS = 1000003;
     private static final int WAYS_MODULUS = 1000000007;
+    /** No play goes through a POSITION twice, so none has so many MOVES and SWAPS. */
+    private static final int MORE_THAN_ANY = 1 << MOST_SUMS;
 
     private static final int NUM = 0;
     private static final int ADD = 1;
@@ -340,7 +342,7 @@ public final class SlatePlay {
     // Plays between POSITIONS, numbers aside.
 
     public int fewest(int set, boolean exact) {
-        return noSet(set) ? NO_SUCH : slatesWithin(set, exact, Integer.MAX_VALUE);
+        return noSet(set) ? NO_SUCH : slatesWithin(set, exact, MORE_THAN_ANY);
     }
 
     public int within(int set, int n, boolean exact) {
@@ -470,7 +472,7 @@ public final class SlatePlay {
         for (int v = 0; v < now.sums; v++) {
             if (now.has(v)) {
                 int left = search.distances[now.stood ^ 1 << v];
-                int takes = left == NONE ? Integer.MAX_VALUE : left;
+                int takes = left == NONE ? MORE_THAN_ANY : left;
                 if (takes > most) {
                     most = takes;
                     worst = v;

@@ -24,6 +24,7 @@ public final class EdgesBoardTest {
         lend();
         give();
         lose();
+        noSlateAtAll();
         clear();
         culprits();
         count();
@@ -410,6 +411,63 @@ public final class EdgesBoardTest {
         due("not the last, with one lent", lent.lose(0), 1);
         lent.move(0);
         due("the last, with one lent and one lost", lent.lose(0), -3);
+    }
+
+    /** One told, one lent, one lost, and the one that is left given back. */
+    private static void noSlateAtAll() {
+        Twins none = new Twins(CHECK, () -> {
+            SlatePlay x = Told.school("slates 1;num 5;turn 0 by 1;");
+            x.lend(1);
+            x.move(0);
+            x.lose(0);
+            x.give(1);
+            Told.row(x, 0, 0, 0, 0);
+            x.row(1, 0, 0);
+            return x;
+        });
+        int[] due = {0, 0, 0, 1};
+        for (int what = 0; what < 4; what++) {
+            int of = what;
+            none.stay("slates(" + what + ") of none", due[what], x -> x.slates(of));
+        }
+        none.stay("move(0) without any", -3, x -> x.move(0));
+        none.stay("swap(1) without any", -5, x -> x.swap(1));
+        none.stay("may(0) without any", 0, x -> x.may(0));
+        none.stay("may(1) without any", 0, x -> x.may(1));
+        none.stay("lose(0) without any", -5, x -> x.lose(0));
+        none.stay("give(1) without any", -3, x -> x.give(1));
+        none.stay("clear() without any", 0, SlatePlay::clear);
+        none.stay("judge(0) without any", 0, x -> x.judge(0));
+        none.stay("ends(0) without any", 0, x -> x.ends(0));
+        none.stay("backwards(0) without any", 0, x -> x.backwards(0));
+        none.stay("backwards(1) of no MOVES", 1, x -> x.backwards(1));
+        none.stay("walk(3, 9) without any", 0, x -> x.walk(3, 9));
+        none.stay("seen(3, 9) without any", 1, x -> x.seen(3, 9));
+        none.stay("worst(0) without any", -1, x -> x.worst(0));
+        none.stay("breaks(0, 1) without any", -5, x -> x.breaks(0, 1));
+        none.stay("lacks(0) without any", 0, x -> x.lacks(0));
+        none.stay("lacks(3) without any", 2, x -> x.lacks(3));
+        // A number of slates that is told does not mind those there are.
+        none.stay("go(1, 1) without any", 1, x -> x.go(1, 1, true));
+        none.stay("reach(1) without any", 3, x -> x.reach(1));
+        none.become("lend(2) to none", 2, x -> x.lend(2), x -> x.lend(1) + x.lend(1));
+        SlatePlay x = Told.school("slates 1;num 5;");
+        x.lend(3);
+        for (int left = 3; left >= 1; left--) {
+            x.move(0);
+            due("lose(0) down to " + left, x.lose(0), left);
+        }
+        x.move(0);
+        due("the last one is not lost", x.lose(0), -3);
+        due("three are lost", x.slates(3), 3);
+        due("give(1) of the last, which is not free", x.give(1), -5);
+        due("wiped", x.move(0), 0);
+        due("give(2) of the last", x.give(2), -5);
+        due("give(1) of the last", x.give(1), 2);
+        due("none is left", x.slates(0), 0);
+        due("give(1) of none", x.give(1), -5);
+        due("lend(1) to none", x.lend(1), 3);
+        due("one again", x.move(0), 1);
     }
 
     private static void clear() {

@@ -218,6 +218,9 @@ public final class EdgesPlaysTest {
         due("13!, cut", nums(14, 0).ways(8191, 14, true), 6227020800L % 1000000007L);
         due("14!, cut", nums(14, 0).ways(ALL, 14, true), 87178291200L % 1000000007L);
         due("any one of two", Told.school("slates 2;num 1;turn 0 by 1;").ways(0, 1, false), 1);
+        // 0, 1, 2 and 1 away: 2 can neither be made nor wiped without 1, however few MOVES lie between.
+        due("only by what can be", Told.school("slates 3;num 1;add 0 0;add 1 1;").ways(5, 3, true), 1);
+        due("a MOVE or a SWAP, each its own way", Told.school("slates 3;num 1;num 2;turn 0 by 1;").ways(4, 2, false), 2);
     }
 
     private static void reach() {
@@ -290,6 +293,8 @@ public final class EdgesPlaysTest {
         due("it can't be brought back", Told.standing(THREE, 0, 1).worst(2), 1);
         due("nor can any of two", Told.standing(THREE, 0, 1).worst(3), 0);
         due("the only one", Told.standing("slates 1;num 1;num 2;", 1).worst(1), 1);
+        due("SUM 0 alone", Told.standing("slates 1;num 1;num 2;", 0).worst(1), 0);
+        due("SUM 0 alone, nothing is wanted", Told.standing("slates 1;num 1;num 2;", 0).worst(0), 0);
         // Behind each slate the SUM is to be made again, by one MOVE.
         SlatePlay x = Told.standing("slates 3;num 1;add 0 0;add 1 1;", 0, 1, 2);
         x.lend(1);
@@ -352,6 +357,7 @@ public final class EdgesPlaysTest {
         RICH.stay("must, more STAND", -1, x -> x.must(0, 2));
         RICH.stay("must(16, 2), more STAND", -1, x -> x.must(16, 2));
         RICH.stay("must(16, 4)", 30, x -> x.must(16, 4));
+        RICH.stay("must(16, 3): one does not come to 4 alone so", 30, x -> x.must(16, 3));
         RICH.stay("must(1, 3)", 15, x -> x.must(1, 3));
         due("must of nothing", nums(14, 0).must(0, 1), 0);
         due("must of all", nums(14, 0).must(ALL, 14), ALL);

@@ -13,6 +13,7 @@ public final class EdgesTapeTest {
         endRefusesMoreThanThereAre();
         endRefusesBelowNothing();
         schoolComesInPlaceOfAnother();
+        schoolTakesNothingOfAnother();
         schoolOfNothingIsNone();
         schoolEmptiesTheTape();
         schoolWithFaultLeavesAll();
@@ -184,6 +185,36 @@ public final class EdgesTapeTest {
         due("the rows stay", x.count(7), 3);
         due("the IMAGE stays", x.back(2), 0);
         due("the IMAGE's SCHOOL", x.stands(0), 14);
+    }
+
+    /** A SCHOOL of nums behind one of a SUM of others: of the other one nothing is left. */
+    private static void schoolTakesNothingOfAnother() {
+        for (String word : new String[] {"add 0 1", "turn 1 by 7"}) {
+            SlatePlay x = Told.school("slates 9;num 5;num 6;" + word + ";" + word + ";");
+            for (int v = 0; v < 4; v++) {
+                x.move(v);
+            }
+            due("nums behind: " + word, Told.tell(x, "slates 3;num 1;num 2;num 3;num 4;"), 5);
+            for (int v = 0; v < 4; v++) {
+                for (int what : new int[] {0, 3, 4, 5}) {
+                    due("sum(" + v + ", " + what + ") behind: " + word, x.sum(v, what), 0);
+                }
+                due("value(" + v + ") behind: " + word, x.value(v), v + 1);
+            }
+            due("count(1) behind: " + word, x.count(1), 0);
+            due("count(5) behind: " + word, x.count(5), 0);
+            due("count(6) behind: " + word, x.count(6), 15);
+            due("may(0) behind: " + word, x.may(0), 15);
+            due("may(1) behind: " + word, x.may(1), 0);
+            due("move(3) behind: " + word, x.move(3), 1);
+            due("swap(3) behind: " + word, x.swap(3), -2);
+            due("reach(3) behind: " + word, x.reach(3), 15);
+            due("a shorter one behind it", Told.tell(x, "slates 2;num 8;"), 2);
+            due("sum(1, 0) behind it", x.sum(1, 0), -2);
+            due("move(1) behind it", x.move(1), -2);
+            due("fewest(2, true) behind it", x.fewest(2, true), -2);
+            due("reach(14) behind it", x.reach(14), 2);
+        }
     }
 
     private static void schoolOfNothingIsNone() {

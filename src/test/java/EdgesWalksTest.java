@@ -64,6 +64,8 @@ public final class EdgesWalksTest {
     private static void walkStays() {
         SlatePlay alone = Told.school("slates 1;");
         due("without SUMS", alone.walk(7, 200), 0);
+        due("without SUMS, one", alone.walk(7, 1), 0);
+        due("seen without SUMS, one", alone.seen(7, 1), 1);
         due("seen without SUMS", alone.seen(7, 200), 1);
         SlatePlay stuck = Told.standing("slates 2;num 1;add 0 0;", 0, 1);
         stuck.lose(0);

@@ -115,7 +115,7 @@ public final class LanguageTest {
         none("lambdas and method references", found(source, "->|::"));
         none("imports", found(source, "import (?!java\\.util\\.Arrays;)[^;]*;"));
         none("library calls", found(source, "\\b(Arrays\\.(?!fill\\b)\\w+|Math\\.(?!max\\b|min\\b|floorMod\\b)\\w+|"
-                + "Integer\\.(?!bitCount\\b|MAX_VALUE\\b)\\w+)"));
+                + "Integer\\.(?!bitCount\\b)\\w+)"));
         none("long methods", longMethods(source));
     }
 
