@@ -349,27 +349,14 @@ public final class SlatePlay {
         return noSet(set) || n < 0 || n > MOST_STEPS ? NO_SUCH : slatesWithin(set, exact, n);
     }
 
-    /** One more slate never makes a play longer, so the fewest are found by halving. */
     private int slatesWithin(int set, boolean exact, int most) {
-        int low = Integer.bitCount(set);
-        int high = now.sums;
-        if (!comesWithin(set, exact, high, most)) {
-            return NONE;
-        }
-        while (low < high) {
-            int middle = (low + high) / 2;
-            if (comesWithin(set, exact, middle, most)) {
-                high = middle;
-            } else {
-                low = middle + 1;
+        for (int limit = Integer.bitCount(set); limit <= now.sums; limit++) {
+            int moves = search.between(0, set, exact, limit);
+            if (moves != NONE && moves <= most) {
+                return limit;
             }
         }
-        return low;
-    }
-
-    private boolean comesWithin(int set, boolean exact, int limit, int most) {
-        int moves = search.between(0, set, exact, limit);
-        return moves != NONE && moves <= most;
+        return NONE;
     }
 
     public int steps(int set, int s, boolean exact) {
@@ -1643,7 +1630,7 @@ public final class SlatePlay {
 
         private static int powerBelow(int n, int k) {
             int power = 1;
-            while (power * k < n) {
+            for (int i = 0; i < MOST_LENGTH && power * k < n; i++) {
                 power *= k;
             }
             return power;

@@ -116,6 +116,7 @@ public final class LanguageTest {
         none("imports", found(source, "import (?!java\\.util\\.Arrays;)[^;]*;"));
         none("library calls", found(source, "\\b(Arrays\\.(?!fill\\b)\\w+|Math\\.(?!max\\b|min\\b|floorMod\\b)\\w+|"
                 + "Integer\\.(?!bitCount\\b)\\w+)"));
+        none("loops without an end in their own lines", found(source, "while \\(true\\)|for \\([^;]*;\\s*;"));
         none("long methods", longMethods(source));
     }
 
